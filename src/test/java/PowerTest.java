@@ -7,6 +7,7 @@ public final class PowerTest {
         runOfFiveTicks();
         runBeginsAnew();
         ordersBeginWithoutPower();
+        runIsCountedWithoutPowerToo();
         noDoorShutsByItself();
         Check.end();
     }
@@ -93,9 +94,25 @@ public final class PowerTest {
         Check.same("the first is done", tower.look(0), 1);
         Check.same("the second has not begun", tower.look(1), 0);
         tower.power(false);
-        tower.tick(30);
+        tower.tick(1);
         Check.same("it has now", tower.look(1), second);
+        tower.tick(30);
         Check.same("and waits", tower.look(3), 2);
+    }
+
+    private static void runIsCountedWithoutPowerToo() {
+        ParkTower tower = new ParkTower();
+        Scenes.arriveSmall(tower, 0);
+        tower.shut(0);
+        tower.power(false);
+        tower.power(true);
+        tower.tick(4);
+        tower.power(false);
+        tower.tick(1);
+        Check.same("the fifth tick of the run", tower.look(1), 0);
+        tower.tick(1);
+        Check.same("the order begins after it", tower.look(1), 19);
+        Check.same("and waits for power", tower.look(3), 2);
     }
 
     private static void noDoorShutsByItself() {

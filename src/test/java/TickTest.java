@@ -9,6 +9,8 @@ public final class TickTest {
         oneTickOrMany();
         nextOrderBeginsATickLater();
         laterOrderGoesFirst();
+        fetchWaitsForTheCarInItsBay();
+        ordersKeepTheirPlaces();
         fetchOfMovedCar();
         doorOpensAndShutsAtOnce();
         Check.end();
@@ -177,6 +179,39 @@ public final class TickTest {
         Check.same("the door is shutting", tower.bay(0, 0), 3);
         tower.tick(1);
         Check.same("then the fetch begins", tower.look(1), tickets[0]);
+    }
+
+    private static void fetchWaitsForTheCarInItsBay() {
+        ParkTower tower = new ParkTower();
+        int stored = Scenes.store(tower);
+        int came = Scenes.arriveSmall(tower, 0);
+        tower.shut(0);
+        Check.same("the order to fetch is made first", tower.leave(stored), 0);
+        tower.tick(4);
+        Check.same("two orders", tower.bay(0, 4), 2);
+        Check.same("the bay is shut, but has a car: it is stored first", tower.look(1), came);
+    }
+
+    private static void ordersKeepTheirPlaces() {
+        ParkTower tower = new ParkTower();
+        int fetched = Scenes.store(tower);
+        Scenes.arriveSmall(tower, 0);
+        tower.shut(0);
+        tower.tick(4);
+        tower.leave(fetched);
+        int last = Scenes.arriveSmall(tower, 1);
+        tower.shut(1);
+        tower.tick(5);
+        Check.same("the first has ended", tower.look(0), 2);
+        tower.tick(1);
+        Check.same("the fetch waits for the door", tower.look(1), last);
+        tower.tick(6);
+        Check.same("the fetch alone is left", tower.look(0), 1);
+        Check.same("for bay 0", tower.bay(0, 4), 1);
+        tower.tick(1);
+        Check.same("it begins", tower.look(1), fetched);
+        tower.tick(60);
+        Check.same("it is fetched", tower.bay(0, 2), fetched);
     }
 
     private static void fetchOfMovedCar() {
