@@ -1,12 +1,18 @@
 /** Counts and prints what is not as due; each test ends with end(). */
 final class Check {
     private static int wrong = 0;
+    private static String test = "";
 
     private Check() {
     }
 
     interface Call {
         void run();
+    }
+
+    /** What fails from now on belongs to this test. */
+    static void begin(String name) {
+        test = name + ": ";
     }
 
     static void same(String what, long got, long due) {
@@ -29,7 +35,7 @@ final class Check {
 
     static void fail(String line) {
         wrong++;
-        System.out.println(line);
+        System.out.println(test + line);
     }
 
     static void end() {

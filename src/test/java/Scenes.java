@@ -49,6 +49,43 @@ final class Scenes {
         Check.same("gone after the fetch", tower.gone(bay), ticket);
     }
 
+    /** All levels but this one are jammed, so that every car that fits it comes to it. */
+    static void leaveOnlyLevel(ParkTower tower, int level) {
+        for (int l = 0; l < 4; l++) {
+            tower.jam(l, l != level);
+        }
+    }
+
+    /** The level on which a car that just came has the first cells, or -1. */
+    static int levelKept(ParkTower tower) {
+        for (int l = 0; l < 4; l++) {
+            if (tower.cell(24 * l + 1) == -1) {
+                return l;
+            }
+        }
+        return -1;
+    }
+
+    /**
+     * A small car in front of a free cell: the cell was kept for it while a car stood behind, which then
+     * was fetched. The ticket of the car in front.
+     */
+    static int storeInFrontOfFreeCell(ParkTower tower) {
+        int behind = store(tower);
+        int front = arriveSmall(tower, 1);
+        fetch(tower, behind);
+        tower.shut(1);
+        tower.tick(60);
+        return front;
+    }
+
+    /** Level 0 with 22 cars, whose two free cells, 1 and 13, are behind cars. */
+    static void levelWithTwoHiddenCells(ParkTower tower) {
+        storeInFrontOfFreeCell(tower);
+        storeInFrontOfFreeCell(tower);
+        storeMany(tower, 20);
+    }
+
     /**
      * Level 0 with 23 cars, whose only free cell is 1, behind the car in cell 0: 23 cars have come, the
      * first and the fifth of them have driven off, and two more have come. All tickets in that order.
