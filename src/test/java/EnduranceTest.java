@@ -4,6 +4,11 @@
  */
 public final class EnduranceTest {
     public static void main(String[] args) {
+        Sentences.test(EnduranceTest.class);
+    }
+
+    @Sentence("or no serials any more")
+    static void serialsToTheLast() {
         ParkTower tower = new ParkTower();
         int serial = 0;
         for (int due = nextDue(serial); due > 0; due = nextDue(serial)) {
@@ -24,7 +29,6 @@ public final class EnduranceTest {
         Check.illegalState("the last ticket was given", () -> tower.leave(99996));
         Check.illegalArgument("with a wrong digit it was not", () -> tower.leave(99995));
         Check.illegalArgument("there is none behind it", () -> tower.leave(100006));
-        Check.end();
     }
 
     /** The ticket of the first serial behind this one that has a check digit, or 0. */

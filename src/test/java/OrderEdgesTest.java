@@ -106,6 +106,28 @@ public final class OrderEdgesTest {
         Check.same("its car is taken", tower.bay(0, 2), 0);
     }
 
+    @Sentence("At a tick at which none is being done, the first one begins (in that tick) that can")
+    static void laterOneBeginsWhenTheFirstCannot() {
+        ParkTower tower = new ParkTower();
+        int low = Scenes.store(tower);
+        int high = Scenes.storeBig(tower);
+        tower.shut(0);
+        tower.shut(1);
+        tower.tick(4);
+        tower.jam(0, true);
+        tower.leave(low);
+        tower.leave(high);
+        tower.tick(1);
+        Check.same("the second", tower.look(1), high);
+        tower.jam(0, false);
+        tower.tick(1);
+        Check.same("which is not broken off", tower.look(1), high);
+        tower.tick(14);
+        Check.same("it ends", tower.bay(1, 2), high);
+        tower.tick(1);
+        Check.same("then the first", tower.look(1), low);
+    }
+
     @Sentence("to FETCH: its car's level is not jammed")
     static void fetchWaitsWhileItsLevelIsJammed() {
         ParkTower tower = shutTowerWithACar();
@@ -132,6 +154,8 @@ public final class OrderEdgesTest {
         Check.same("behind a shut door", tower.bay(0, 0), 0);
         tower.tick(100);
         Check.same("the order waits", tower.look(1), 0);
+        Check.same("beside the other", tower.look(0), 2);
+        Check.same("its bay is empty", tower.bay(0, 2), 0);
         tower.shut(1);
         tower.tick(50);
         Check.same("the car is stored, one cell is free: it is fetched", tower.bay(0, 2), tickets[0]);

@@ -38,6 +38,33 @@ public final class PlanEdgesTest {
         }
     }
 
+    @Sentence("from a cell that is reached")
+    static void carsInFrontAreMovedAlone() {
+        ParkTower tower = new ParkTower();
+        Scenes.levelWithTwoHiddenCells(tower);
+        for (int cell = 0; cell < 24; cell++) {
+            int ticket = tower.cell(cell);
+            int moves = ticket > 0 ? tower.plan(ticket, -1) : 0;
+            for (int i = 0; i < moves; i++) {
+                Check.same("the depth it is from", tower.plan(ticket, i) / 100 % 2, 0);
+            }
+        }
+    }
+
+    @Sentence("and has no kept one behind it)")
+    static void keptPairIsNoGoal() {
+        ParkTower tower = new ParkTower();
+        Scenes.arriveSmall(tower, 1);
+        int behind = Scenes.store(tower);
+        Scenes.store(tower);
+        Check.same("0 and 1 are kept", tower.cell(0) + tower.cell(1), -2);
+        plan(tower, behind, 1202);
+        tower.shut(1);
+        tower.tick(60);
+        Check.same("0 is free", tower.cell(0), 0);
+        plan(tower, behind, 1200);
+    }
+
     @Sentence("to a free one that is reached")
     static void keptCellsAreNoGoals() {
         ParkTower tower = new ParkTower();
@@ -84,6 +111,20 @@ public final class PlanEdgesTest {
         plan(tower, tickets[2], 1, 1200);
     }
 
+    @Sentence("that is reached when the car is away")
+    static void carOfAHigherLevelAndALaterColumnStepsBack() {
+        ParkTower tower = new ParkTower();
+        Scenes.leaveOnlyLevel(tower, 3);
+        int[] tickets = Scenes.storeMany(tower, 4);
+        Scenes.storeInFrontOfFreeCell(tower);
+        Scenes.storeMany(tower, 18);
+        Check.same("the one free cell", tower.cell(75), 0);
+        Check.same("is behind a car", tower.cell(74) > 0 ? 1 : 0, 1);
+        Check.same("all others have cars", tower.look(5), 23);
+        plan(tower, tickets[0], 7475, 7274);
+        plan(tower, tower.cell(95), 7475, 9474);
+    }
+
     @Sentence("behind which it is reached")
     static void reachedWithoutAMove() {
         ParkTower tower = new ParkTower();
@@ -112,6 +153,16 @@ public final class PlanEdgesTest {
         Scenes.fetch(tower, tickets[5]);
         plan(tower, tickets[0], 2);
         plan(tower, tickets[2], 1202);
+    }
+
+    @Sentence("then so its second one")
+    static void secondMoveGoesToTheCellThatTheFirstHasLeft() {
+        ParkTower tower = new ParkTower();
+        Scenes.levelWithTwoHiddenCells(tower);
+        int[] columns = {2, 4, 6, 8, 10, 14, 16, 18, 20, 22};
+        for (int front : columns) {
+            plan(tower, tower.cell(front + 1), 1, 100 * front);
+        }
     }
 
     @Sentence("It is made when the order begins")

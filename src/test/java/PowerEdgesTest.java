@@ -164,8 +164,9 @@ public final class PowerEdgesTest {
         tower.tick(4);
         tower.leave(19);
         tower.power(false);
-        tower.tick(20);
+        tower.tick(1);
         Check.same("it begins: power is asked of steps alone", tower.look(1), 19);
+        tower.tick(20);
         Check.same("its step waits", tower.look(3), 5);
         tower.power(true);
         tower.tick(5);

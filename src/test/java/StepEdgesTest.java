@@ -350,4 +350,18 @@ public final class StepEdgesTest {
         step(tower, 3, 4);
         Check.same("the lift", tower.look(4), 3);
     }
+
+    @Sentence("at the level when that is not jammed. Otherwise it waits.")
+    static void carIsPutIntoTheBayThoughItsLevelIsJammed() {
+        ParkTower tower = towerWithLiftAt(3);
+        tower.leave(19);
+        tower.tick(9);
+        step(tower, 2, 9);
+        tower.jam(3, true);
+        tower.jam(0, true);
+        tower.tick(9);
+        step(tower, 3, 2);
+        tower.tick(2);
+        Check.same("in the bay", tower.bay(0, 2), 19);
+    }
 }
