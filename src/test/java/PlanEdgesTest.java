@@ -38,6 +38,22 @@ public final class PlanEdgesTest {
         }
     }
 
+    @Sentence("(of other cars of its level")
+    static void firstCellOfTheNextLevelDoesNotHelp() {
+        for (int level = 0; level < 4; level++) {
+            ParkTower tower = new ParkTower();
+            Scenes.leaveOnlyLevel(tower, level);
+            int[] tickets = Scenes.storeMany(tower, 23);
+            int base = 24 * level;
+            Scenes.fetch(tower, tickets[0]);
+            Check.same("the last cell but one was filled", tower.cell(base + 22), tickets[1]);
+            Scenes.arriveSmall(tower, 0);
+            Check.same("the first two are kept", tower.cell(base) + tower.cell(base + 1), -2);
+            Check.same("no plan of a car behind another", tower.plan(tickets[2], -1), -1);
+            Check.same("nor of the one in the last cell", tower.plan(tickets[22], -1), -1);
+        }
+    }
+
     @Sentence("from a cell that is reached")
     static void carsInFrontAreMovedAlone() {
         ParkTower tower = new ParkTower();
