@@ -1,7 +1,10 @@
+import java.io.IOException;
 import java.lang.reflect.Constructor;
 import java.lang.reflect.Field;
 import java.lang.reflect.Method;
 import java.lang.reflect.Modifier;
+import java.nio.file.Files;
+import java.nio.file.Path;
 import java.util.ArrayList;
 import java.util.Arrays;
 import java.util.Collections;
@@ -23,7 +26,7 @@ public final class FaceTest {
             "void power(boolean) IllegalStateException",
             "void shut(int) IllegalArgumentException IllegalStateException");
 
-    public static void main(String[] args) {
+    public static void main(String[] args) throws IOException {
         int modifiers = ParkTower.class.getModifiers();
         Check.same("public and final", modifiers & ~Modifier.PUBLIC & ~Modifier.FINAL, 0);
         Check.same("both", Integer.bitCount(modifiers), 2);
@@ -35,7 +38,22 @@ public final class FaceTest {
         for (Field field : ParkTower.class.getDeclaredFields()) {
             Check.same("private field " + field, Modifier.isPrivate(field.getModifiers()) ? 1 : 0, 1);
         }
+        asWritten();
         Check.end();
+    }
+
+    /** The face as the document writes it, with the names of the parameters, which the class no longer has. */
+    private static void asWritten() throws IOException {
+        String program = Files.readString(Path.of("src", "main", "java", "ParkTower.java")).replaceAll("\\s+", " ");
+        int found = 0;
+        for (String line : Files.readAllLines(Path.of("..", "shared", "DOC.md"))) {
+            if (line.startsWith("    public ")) {
+                found++;
+                String due = line.strip().replace(";", " {");
+                Check.same("the program's text has " + due, program.contains(due) ? 1 : 0, 1);
+            }
+        }
+        Check.same("lines of the document's face", found, 13);
     }
 
     private static void methods() {
